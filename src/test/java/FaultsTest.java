@@ -52,6 +52,10 @@ public final class FaultsTest {
         due("snow;", 1, 0);
         due("  slopes 1 1;", 1, 2);
         due("Slope 1 1;", 1, 0);
+        due("zlope 1 1;", 1, 0);
+        due("slopz 1 1;", 1, 0);
+        due("slopez 1 1;", 1, 0);
+        due("slo pe 1 1;", 1, 0);
         due("slope", 1, 5);
         due("slope 1 ", 1, 8);
         due("slope 1 1", 1, 9);
@@ -83,6 +87,10 @@ public final class FaultsTest {
     private static void tooMuch() {
         due("slope 91 0;", 2, 6);
         due("slope 90 21;", 2, 9);
+        due("slope 900 1;", 2, 6);
+        due("slope 90 2000;", 2, 9);
+        due("hour 1000;", 2, 5);
+        due("layer 30 powder 1 0 1 0;", 2, 6);
         due("slope 00001 1;", 2, 6);
         due("slope 12345", 2, 6);
         due(times(4, "slope 1 1;") + "slope", 2, 40);

@@ -103,6 +103,9 @@ public final class HoursTest {
         // Its 3 of WATER freeze: 10 * 14 / 100 = 1, and 2 are left: TEMP 0; 11 * 2 / 100 = 0 is held.
         layerIs("wetted from above", x, 0, 0, 3, 11, 0, 100, 0, 1, 0);
         Check.same("RUNOFF", x.slope(0, 6), 2);
+        // The least HEAT of all: by 20 / 5 and by 1 / 1.
+        Check.same("AIR 1", hourOn("slope 30 20;layer 0 crust 5 0 50 8;hour 1;").layer(0, 0, 4), -4);
+        Check.same("HEAT 1", hourOn("slope 30 1;layer 0 crust 1 0 10 5;hour 1;").layer(0, 0, 4), -4);
         // OPEN 0: no HEAT at all.
         x = hourOn("slope 30 0;layer 0 crust 10 0 100 7;hour 100;");
         Check.same("not warmed", x.layer(0, 0, 4), -7);
@@ -183,6 +186,9 @@ public final class HoursTest {
         x = hourOn("slope 30 0;layer 0 powder 9 0 50 0;layer 0 powder 9 0 9 0;stiff powder 1;");
         Check.same("no less than 9", x.layer(0, 0, 3), 9);
         Check.same("no less than 9", x.layer(0, 1, 3), 9);
+        // 50 * 1 / 1 and 50 * 1 / 2.
+        Check.same("STIFF 1", hourOn("slope 30 0;layer 0 powder 2 0 50 0;stiff powder 1;").layer(0, 0, 3), 2);
+        Check.same("STIFF 2", hourOn("slope 30 0;layer 0 powder 2 0 50 0;stiff powder 2;").layer(0, 0, 3), 25);
         // Also if it was less: RAIN makes it more than its DEPTH.
         x = hourOn("slope 30 0;holds grains 99;layer 0 grains 40 0 40 0;hour 0 rain 30;");
         Check.same("also if it was", x.layer(0, 0, 3), 70);
@@ -227,6 +233,7 @@ public final class HoursTest {
         x = Check.on("slope 30 0;layer 0 crust 5 0 50 100;layer 0 crust 5 0 40 0;hour 100;");
         Check.same("GRADE on top: 0 and -100", x.layer(0, 1, 8), 25);
         Check.same("GRADE below: 0 and 0", x.layer(0, 0, 8), 0);
+        Check.same("GRADE by AIR 1", Check.on("slope 30 0;layer 0 crust 5 0 10 0;hour 1;").layer(0, 0, 8), 0);
     }
 
     private static void strength() {
@@ -236,6 +243,10 @@ public final class HoursTest {
         // 12 * 35 * 10 / 90 = 46: 100 is less than 102.
         Check.same("whole", x.layer(0, 1, 9), 46);
         Check.same("HOAR", x.layer(0, 2, 9), 1);
+        // One freezes, ICE is 100 and WATER 3: just enough for half of 40 * 103 * 10 / 103.
+        SnowRecorder y = hourOn("slope 30 0;holds crust 3;layer 0 crust 99 4 103 2;hour -2;");
+        layerIs("just enough", y, 0, 0, 3, 100, 3, 103, 0, 1, 0);
+        Check.same("just half", y.layer(0, 0, 9), 200);
         Check.same("BURDEN: 40 * 70 / 100", x.layer(0, 0, 10), 28);
         Check.same("BURDEN: 5 * 70 / 100", x.layer(0, 1, 10), 3);
         Check.same("no BURDEN", x.layer(0, 2, 10), 0);

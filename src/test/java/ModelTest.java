@@ -23,7 +23,27 @@ public final class ModelTest {
                 break;
             }
         }
+        new ModelTest(0).manyUnlike();
         Check.finish();
+    }
+
+    /** Far more unlike DEPTHS than one FALL can make. */
+    private void manyUnlike() {
+        StringBuilder t = new StringBuilder("slope 50 5;slope 0 20;");
+        for (int i = 0; i < 24; i++) {
+            t.append("hour ").append(i % 5 == 0 ? i : -i).append(i % 3 == 0 ? " rain " : " snow ").append(i + 1).append(';');
+        }
+        int[] all = Check.numbers(t.toString());
+        for (int i = 0; i < all.length; i += 5) {
+            x.feed(all[i], all[i + 1], all[i + 2], all[i + 3], all[i + 4]);
+            m.feed(all[i], all[i + 1], all[i + 2], all[i + 3], all[i + 4]);
+        }
+        both("snow", x.snow(t.length()), m.snow(t.length()));
+        both("look(0)", x.look(0), m.look(0));
+        both("look(1)", x.look(1), m.look(1));
+        both("hours(7)", x.hours(7), m.hours(7));
+        both("look(1)", x.look(1), m.look(1));
+        Check.same("many are unlike", m.look(1) > 200 ? 1 : 0, 1);
     }
 
     private void run() {

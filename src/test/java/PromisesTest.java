@@ -169,6 +169,8 @@ public final class PromisesTest {
         for (int what = 0; what < bare.length; what++) {
             is("7: slope(0, " + what + ")", x.slope(0, what), bare[what]);
         }
+        // 2 * 90 / 100 = 1: RATIO 100.
+        is("7: just not UNSTABLE", Check.on("slope 90 0;layer 0 hoar 1 0 10 0;layer 0 crust 2 0 2 0;").slope(0, 9), 0);
         Check.due("7: slope(-1, 0)", () -> x.slope(-1, 0), NO_SUCH);
         Check.due("7: slope(2, 0)", () -> x.slope(2, 0), NO_SUCH);
         Check.due("7: slope(0, -1)", () -> x.slope(0, -1), NO_SUCH);
@@ -419,6 +421,8 @@ public final class PromisesTest {
         is("18: given by hand", x.gone(3), -1);
         x.undo();
         Check.due("18: not given any more", () -> x.gone(3), NO_SUCH);
+        is("18: behind 72", Check.on("slope 0 10;layer 0 crust 72 0 72 0;hour 10;").gone(0), 72);
+        is("18: not behind 73", Check.on("slope 0 10;layer 0 crust 73 0 73 0;hour 10;").gone(0), -1);
         // Behind 11 HOURS there are 12 LAYERS; in the 12th HOUR NAMES 0 and 1 are JOINED: 1 has more ICE.
         SnowRecorder y = Check.on("slope 0 0;layer 0 crust 1 0 60 0;hour 0 snow 5;");
         is("18: JOINED away", y.gone(0), 12);
@@ -481,6 +485,7 @@ public final class PromisesTest {
         // In two HOURS HEAT of each HOUR counts by itself.
         is("22: by 10 in two HOURS", x.toWarm(0, 2), 10);
         is("22: from -15 on", Check.on(text + "hour -15;").toWarm(0, 1), 25);
+        is("22: from -40 on", Check.on(text + "hour -40;").toWarm(0, 1), 50);
         is("22: from -41 on", Check.on(text + "hour -41;").toWarm(0, 1), -1);
         // By 30 AIR is -11, then 15: the top one is at -2, takes 36 of HEAT 150, and one melts; by 29 it doesn't.
         is("22: in one of two HOURS", Check.on(text + "hour -41;hour -15;").toWarm(0, 2), 30);
@@ -782,6 +787,21 @@ public final class PromisesTest {
         is("33: in place of another one", x.restore() ? 1 : 0, 1);
         is("33: TIME", x.count(2), 7);
         is("34: none", new SnowRecorder().restore() ? 1 : 0, 0);
+        // All ACTS of the IMAGE come back, the first one too.
+        SnowRecorder w = Check.on("slope 1 0;layer 0 crust 7 0 7 0;");
+        w.fall(0, 1, 1);
+        w.fall(0, 1, 2);
+        w.image();
+        w.undo();
+        w.undo();
+        w.dig(0);
+        w.fall(0, 1, 9);
+        w.fall(0, 1, 9);
+        w.restore();
+        is("34: undo()", w.undo(), 1);
+        is("34: ICE ahead of the second", w.slope(0, 4), 8);
+        is("34: undo()", w.undo(), 0);
+        is("34: ICE ahead of the first", w.slope(0, 4), 7);
         // A PIT that was UNDONE behind the IMAGE, and another one in its place.
         SnowRecorder y = Check.on("slope 1 0;slope 1 0;layer 1 crust 1 0 1 0;");
         y.pit(1);
