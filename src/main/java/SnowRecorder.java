@@ -626,8 +626,8 @@ public final class SnowRecorder {
                 world.hour(by, slopes, true);
             }
             for (int i = 0; i < notes.size; i++) {
-                int depth = world.packs[notes.slope[i]].sum(DEPTH);
-                if (notes.hours[i] == elapsed && notes.depth[i] != depth) {
+                if (notes.hours[i] == elapsed
+                        && notes.depth[i] != world.packs[notes.slope[i]].sum(DEPTH)) {
                     return false;
                 }
             }
