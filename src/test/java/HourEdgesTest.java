@@ -36,6 +36,7 @@ public final class HourEdgesTest {
             .due("layer(0,0,8)=0 fall(0,3,1)=-1 hours(1)=1 layer(0,0,4)=-28 slope(0,2)=1 slope(0,6)=0");
         Run.says("SLOPE by SLOPE, all of (a) to (g), then TIME (0 first) is one more.").tell("slope 0 0;slope 0 0;hour -8 snow 1;")
             .due("count(2)=0 hours(2)=2 count(2)=2 layer(0,0,6)=0 layer(1,0,6)=1 layer(0,1,6)=2 layer(1,1,6)=3 layer(0,0,5)=2 layer(0,1,5)=1");
+        Run.says("(g) AGE is one more.").tell("slope 0 0;" + "layer 0 crust 5 0 9 8;".repeat(12)).due("hours(3) layer(0,0,5)=3 layer(0,11,5)=3");
         Run.says("(g) AGE is one more.").tell("slope 0 0;layer 0 crust 5 0 5 0;")
             .due("layer(0,0,5)=0 hours(1)=1 layer(0,0,5)=1 hours(24)=25 layer(0,0,5)=25");
     }
@@ -109,6 +110,8 @@ public final class HourEdgesTest {
         Run.says(warmer).tell("slope 0 2;holds crust 99;layer 0 crust 10 0 99 5;hour 74;")
             .due("hours(1) layer(0,0,4)=0 layer(0,0,1)=10 layer(0,0,2)=0");
         // JOINED, 198 of ICE at -2: 300 warm it by 1, and the 102 that are left melt none, for it isn't at 0 (one would freeze again, to CRUST).
+        Run.says("if it is at 0 then, ICE melts").tell("slope 0 5;layer 0 crust 9 0 99 0;layer 0 crust 9 0 99 0;" + TEN + "hour 100;")
+            .due("dig(0)=11 fall(0,1,9)=12 hours(1) slope(0,2)=12 layer(0,11,1)=4 slope(0,6)=5");
         Run.says("if it is at 0 then, ICE melts").tell("slope 0 3;layer 0 grains 99 0 990 2;layer 0 grains 99 0 990 2;" + TEN + "hour 100;")
             .due("fall(0,1,1)=12 11*dig(0) layer(0,0,1)=198 layer(0,0,4)=-2 hours(1) layer(0,0,1)=198 layer(0,0,2)=0 layer(0,0,4)=-1 layer(0,0,0)=1");
     }
